@@ -15,6 +15,7 @@ public final class TakeTest {
         ownAheadOfClash();
         droppedOnesDoNotCount();
         takenStays();
+        everythingFull();
         CHECK.end();
     }
 
@@ -215,5 +216,26 @@ public final class TakeTest {
         y.take(1L, 0, 0, 0L);
         CHECK.due("take of the digest 0", y.take(2L, 0, 0, 0L), 1L);
         CHECK.due("taken 0", y.taken(), 0L);
+    }
+
+    private static void everythingFull() {
+        TrustRows x = Setup.withWriters(5, 0, 0, 0, 0, 1, 1, 1, 1, 2, 2, 2, 2);
+        for (int i = 0; i < 20; i++) {
+            x.rule(i % 8, TrustRows.NONE, i % 3, 4);
+        }
+        for (int i = 0; i < 100; i++) {
+            Setup.tell(x, i % 12, i / 12, 9L, i);
+        }
+        x.own(true);
+        CHECK.due("the last action, own", x.take(8L, 0, 0, 99L), 2L);
+        CHECK.due("the last action, before it", x.take(8L, 0, 0, 95L), -1L);
+        CHECK.due("an action that nobody told", x.take(50L, 0, 0, 99L), -1L);
+        CHECK.due("counted of it", x.counted(50L, 0, 0, 99L), 0L);
+        x.own(false);
+        CHECK.due("the last action, by a rule of level 1", x.take(8L, 0, 0, 99L), -1L);
+        CHECK.due("an action that all told", x.take(7L, 0, 0, 99L), 1L);
+        CHECK.due("counted of it by level 1", x.counted(7L, 0, 0, 99L), 8L);
+        CHECK.due("counted of it by level 2", x.counted(7L, 1, 0, 99L), 4L);
+        CHECK.due("counted of it by level 0", x.counted(7L, 2, 0, 99L), 12L);
     }
 }

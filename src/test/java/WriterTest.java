@@ -9,6 +9,7 @@ public final class WriterTest {
         keysOfNoWriter();
         keysWithWrongSpans();
         keysOfTheLastWriter();
+        fullKeysEndAtTheirWriter();
         barredWriterGetsNoKey();
         CHECK.end();
     }
@@ -78,7 +79,22 @@ public final class WriterTest {
         }
         CHECK.due("a fifth key of 11", x.key(11, 60L, 0L, 10L), TrustRows.NONE);
         CHECK.due("result under the last key", x.result(11, 1L, 1L, 53L, 0L, 9L), 0L);
+        CHECK.due("result under no key of a full row", x.result(11, 2L, 1L, 60L, 0L, 9L), -2L);
         CHECK.due("result under a neighbour's key", x.result(10, 1L, 1L, 50L, 0L, 9L), -2L);
+    }
+
+    private static void fullKeysEndAtTheirWriter() {
+        TrustRows x = new TrustRows(1);
+        x.writer(1);
+        x.writer(1);
+        for (int place = 0; place < 4; place++) {
+            x.key(0, 50L + place, 0L, 10L);
+            x.key(1, 60L + place, 0L, 10L);
+        }
+        CHECK.due("0 under the first key of 1", x.result(0, 1L, 1L, 60L, 0L, 5L), -2L);
+        CHECK.due("1 under the last key of 0", x.result(1, 1L, 1L, 53L, 0L, 5L), -2L);
+        CHECK.due("0 under its last key", x.result(0, 1L, 1L, 53L, 0L, 5L), 0L);
+        CHECK.due("1 under its first key", x.result(1, 1L, 1L, 60L, 0L, 5L), 1L);
     }
 
     private static void barredWriterGetsNoKey() {
