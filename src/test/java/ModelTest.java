@@ -5,6 +5,10 @@ public final class ModelTest {
     private static final Check CHECK = new Check("ModelTest");
     private static final int RUNS = 1500;
     private static final int CALLS = 512;
+    private static final int FROM_NOTHING = 0;
+    private static final int MANY_ACTIONS = 3;
+    private static final int MANY_TAKES = 4;
+    private static final int STYLES = 5;
     private static final int[] EDGES = {Integer.MIN_VALUE, -2, -1, 0, 1, 2, 5, 7, 8, 12, 99, 100, 200, Integer.MAX_VALUE};
     private static final long[] LONG_EDGES = {Long.MIN_VALUE, -1L, 0L, 1L, 3L, 1L << 32, Long.MAX_VALUE};
 
@@ -20,16 +24,15 @@ public final class ModelTest {
         int quorum = random.nextInt(9) - 2;
         x = new TrustRows(quorum);
         model = new Model(quorum);
-        style = random.nextInt(4);
-        actions = style == 3 ? 60 : 1 + random.nextInt(6);
-        digests = 1 + random.nextInt(3);
+        style = random.nextInt(STYLES);
+        actions = style == MANY_ACTIONS ? 60 : 1 + random.nextInt(6);
+        digests = style == MANY_TAKES ? 1 : 1 + random.nextInt(3);
     }
 
     public static void main(String[] args) {
         for (long seed = 0L; seed < RUNS && CHECK.isClean(); seed++) {
             ModelTest run = new ModelTest(seed);
-            run.start();
-            for (int call = 40; call < CALLS; call++) {
+            for (int call = run.start(); call < CALLS; call++) {
                 run.step("run " + seed + ", call " + call + ": ");
             }
         }
@@ -37,14 +40,18 @@ public final class ModelTest {
     }
 
     /** In most runs there are writers with keys from the start; in some, all of it comes by chance. */
-    private void start() {
-        for (int i = 0; i < 8 && style != 0; i++) {
+    private int start() {
+        if (style == FROM_NOTHING) {
+            return 0;
+        }
+        for (int i = 0; i < 8; i++) {
             int level = random.nextInt(3);
             x.writer(level);
             model.writer(level);
             x.key(i, i, 0L, 1000L);
             model.key(i, i, 0L, 1000L);
         }
+        return 16;
     }
 
     private int near(int bound) {
@@ -57,7 +64,9 @@ public final class ModelTest {
 
     private void step(String at) {
         int kind = random.nextInt(100);
-        if (kind < 5) {
+        if (style == MANY_TAKES && random.nextInt(5) > 1) {
+            stepTake(at);
+        } else if (kind < 5) {
             int level = near(3);
             CHECK.due(at + "writer", x.writer(level), model.writer(level));
         } else if (kind < 10) {
@@ -72,7 +81,7 @@ public final class ModelTest {
             model.own(on);
         } else if (kind < 54) {
             int writer = near(12);
-            boolean go = style != 3 && random.nextInt(3) == 0;
+            boolean go = style != MANY_ACTIONS && random.nextInt(3) == 0;
             CHECK.due(at + "bar", go ? x.bar(writer) : 0, go ? model.bar(writer) : 0);
         } else if (kind < 75) {
             stepTake(at);
@@ -117,7 +126,7 @@ public final class ModelTest {
     }
 
     private void stepQuestion(String at) {
-        int i = near(60);
+        int i = near(style == MANY_TAKES ? 210 : 60);
         int j = near(6);
         switch (random.nextInt(7)) {
             case 0 -> CHECK.due(at + "taken", x.taken(), model.taken());

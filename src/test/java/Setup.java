@@ -29,4 +29,11 @@ final class Setup {
     static int tell(TrustRows x, int writer, long action, long digest, long time) {
         return x.result(writer, action, digest, keyOf(writer), 0L, time);
     }
+
+    /** Results of one writer for the actions 0 and up, all of digest 1 at time 0. */
+    static void tellMany(TrustRows x, int writer, int many) {
+        for (int action = 0; action < many; action++) {
+            tell(x, writer, action, 1L, 0L);
+        }
+    }
 }
